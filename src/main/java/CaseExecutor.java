@@ -359,15 +359,18 @@ public final class CaseExecutor {
             if (depth > MOST_ACTIONS) {
                 return STOPPED;
             }
-            for (int i = from; i < end; i += 1 + program.blockLength(i, end)) {
+            for (int i = from; i < end; i++) {
                 if (steps >= MOST_STEPS) {
                     return STOPPED;
                 }
                 steps++;
-                int ending = doAction(i, i + 1 + program.blockLength(i, end), depth);
+                int length = program.blockLength(i, end);
+                int ending = doAction(i, i + 1 + length, depth);
                 if (ending != WENT_ON) {
                     return ending;
                 }
+                // the action has done its block itself
+                i += length;
             }
             return WENT_ON;
         }
