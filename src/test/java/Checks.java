@@ -20,6 +20,10 @@ final class Checks {
         return wrong;
     }
 
+    int made() {
+        return right + wrong;
+    }
+
     void end(String name) {
         System.out.println(name + ": " + right + " answers as due, " + wrong + " not");
         if (wrong != 0 || right == 0) {
