@@ -7,8 +7,6 @@ final class TermSentences extends Cases {
     }
 
     void all() {
-        doc.section("What it is");
-        doc.sentence("An object is used for at most 512 calls after it has been made;", this::fiveHundredAndTwelveCalls);
         doc.section("Terms");
         programs();
         blocksAndNumbers();
@@ -58,22 +56,6 @@ final class TermSentences extends Cases {
         doc.sentence("REFUSED = -1: A number out of range.", this::refused);
         doc.sentence("FULL = -2: No room for an action.", this::full);
         doc.sentence("NOT_RUN = -3: The program has not been run since it was changed.", this::notRun);
-    }
-
-    /** 84 calls of add and 427 of runAll, each of six RUNS of 400 STEPS; then the 512th. */
-    private void fiveHundredAndTwelveCalls() {
-        CaseExecutor x = new CaseExecutor();
-        for (int p = 0; p < PROGRAMS; p++) {
-            put(x, p, REPEAT, kn(15, 13), REPEAT, kn(15, 12), COUNT, v(155));
-            for (int i = 3; i < MOST_ACTIONS; i++) {
-                x.add(p, COUNT, v(155));
-            }
-        }
-        for (int i = 0; i < 427; i++) {
-            x.runAll(63);
-        }
-        // of 400 STEPS four are REPEAT: the outer one, and the inner one in three of its rounds
-        doc.due("the 512th", x.counter(), 427L * 6 * 155 * 396);
     }
 
     private void sixPrograms() {
